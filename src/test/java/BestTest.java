@@ -49,6 +49,11 @@ public final class BestTest {
         f.person(1, 0, 0);
         f.person(0, 0, 30);
         best(f, 4, 1, 2, 15);
+        // The first one is the strong one.
+        NobodyCanLiftIt s = new NobodyCanLiftIt();
+        s.person(0, 0, 10);
+        s.person(0, 0, 0);
+        best(s, 2, 1, 0, 3);
         // Who goes changes what the others tell: with two others one feels nothing.
         NobodyCanLiftIt o = new NobodyCanLiftIt();
         o.force(Due.read(o, "feels (others < 2)*50; strong 1; eases 0;"));
@@ -150,6 +155,19 @@ public final class BestTest {
         Due.is("behind 0, on", x.sit(0, 1), 0);
         Due.is("in thought alone", x.count(1), 1);
         Due.is("the sword stays", x.told(0, 1), 0);
+        x.set(6, 0, 0);
+        Due.is("who is light", x.sit(1, 0), 2);
+        x.set(3, 0, 1);
+        Due.is("the first of those who are light", x.sit(1, 0), 0);
+        Due.is("the first floor holds", x.sit(1, 1), 0);
+        // Who comes is one other to the others: 6 by each of two, and then no more is held.
+        NobodyCanLiftIt o = new NobodyCanLiftIt();
+        o.force(Due.read(o, "feels others*6; strong 0; eases 0;"));
+        o.person(5, 0, 0);
+        o.person(5, 0, 0);
+        o.set(6, 1, 0);
+        Due.is("who", o.sit(40, 0), 1);
+        Due.is("12 are held by the third", o.sit(40, 1), 2);
         for (int n : new int[] {-1, 41, Integer.MAX_VALUE, Integer.MIN_VALUE}) {
             Due.is("no such n", x.sit(n, 0), -2);
         }

@@ -192,6 +192,10 @@ public final class PeopleTest {
         strong(x, 4, 39);
         x.set(4, 0, 999);
         strong(x, 0, 99);
+        x.set(4, 2, 90);
+        x.set(4, 3, 90);
+        strong(x, 2, 9);
+        strong(x, 3, 16);
         NobodyCanLiftIt q = new NobodyCanLiftIt();
         q.person(3, 6, 39);
         strong(q, 0, 45);

@@ -128,6 +128,9 @@ public final class TextsTest {
 
     private static void tokenFaults() {
         faultIn("ages", 0);
+        faultIn("agez", 0);
+        faultIn("aage", 0);
+        faultIn("age z", 4);
         faultIn("Age", 0);
         faultIn("aGe", 0);
         faultIn("1 orage", 2);

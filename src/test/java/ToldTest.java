@@ -114,6 +114,13 @@ public final class ToldTest {
         Due.is("9 .. 99", x.tells(0, 0, 3), 91);
         Due.is("from 9 on", x.tells(0, 0, 4), 9);
         Due.is("the age stays", x.told(0, 4), 50);
+        x.force(Due.read(x, "feels (99 < age)*99; strong 0; eases 0;"));
+        Due.fill(x, 0, 2, 1);
+        Due.is("of 0 .. 99 none", x.tells(0, 0, 3), 0);
+        Due.is("of 0 .. 99 no least", x.tells(0, 0, 4), -1);
+        Due.fill(x, 0, 2, 0, 1);
+        Due.is("99 alone", x.tells(0, 0, 3), 1);
+        Due.is("which is 99", x.tells(0, 0, 4), 99);
         NobodyCanLiftIt q = new NobodyCanLiftIt();
         q.person(3, 3, 20);
         q.set(5, 0, 42);
@@ -159,6 +166,21 @@ public final class ToldTest {
         Due.fill(x, 0, 1, 0, 0);
         Due.is("5", x.tells(0, 2, 8), 1);
         Due.is("who is here stays", x.best(3), 3);
+        // Each feels 6 by every other one: 12 by two are held by the third floor, and so told.
+        NobodyCanLiftIt o = new NobodyCanLiftIt();
+        o.force(Due.read(o, "feels others*6; strong 0; eases 0;"));
+        o.person(5, 0, 0);
+        o.person(5, 0, 0);
+        o.set(6, 1, 0);
+        Due.fill(o, 0, 0, 1, 2, 2);
+        Due.is("the second comes", o.tells(0, 0, 8), 2);
+        o.set(6, 0, 0);
+        o.set(6, 1, 1);
+        Due.is("the first comes", o.tells(0, 0, 8), 1);
+        o.set(1, 0, 2);
+        Due.is("drawn, the first comes: 12", o.drawn(0, 1), 2);
+        o.set(0, 2, 11);
+        Due.is("drawn, the first comes: more than 11", o.drawn(0, 1), 3);
     }
 
     private static void filming() {
