@@ -12,9 +12,9 @@ public final class NobodyCanLiftIt {
     private static final int MOST_LOAD = 999, MOST_YEAR = 999, MOST_AGE = 999, MOST_EASE = 99, MOST_NUMBER = 9;
     private static final int MOST_PEOPLE = 5;
 
-    private static final int KING = 1, CHILD = 2, QUEEN = 3, KNITTER = 4, ENGINEER = 5, KINDS = 6;
+    private static final int MAN = 0, KING = 1, CHILD = 2, QUEEN = 3, KNITTER = 4, ENGINEER = 5, KINDS = 6;
     // By kind, the kind that it is under.
-    private static final int[] UNDER = {NONE, 0, 0, KING, CHILD, 0};
+    private static final int[] UNDER = {NONE, MAN, MAN, KING, CHILD, MAN};
     private static final int GROWN = 9, QUEENLY_EASE = 50;
 
     // Whatever anybody feels is a whole number of parts of this size: NUMBER and 1 is 10 at most,
@@ -198,7 +198,7 @@ public final class NobodyCanLiftIt {
     public int best(int what) {
         switch (what) {
             case 0: return fewestToLeave();
-            case 1: return howManyLeave();
+            case 1: return howMany(fewestToLeave());
             case 2: return lightestGoing();
             case 3: return now.hereBits();
             default: return BAD;
@@ -209,8 +209,9 @@ public final class NobodyCanLiftIt {
         if (n < 0 || n > MOST_THOUGHT || k < 1 || k > MOST_PROP || what < 0 || what > 1) {
             return BAD;
         }
+        think(n);
         int floor = NONE;
-        int highest = lieBehind(n);
+        int highest = thought.on;
         for (int f = 0; f < FLOORS; f++) {
             int lies = lieWithProp(n, f, k);
             if (lies < highest) {
@@ -253,13 +254,13 @@ public final class NobodyCanLiftIt {
             return BAD;
         }
         switch (what) {
-            case 0: return firstOtherwise(row);
+            case 0: return otherwiseNow(row);
             case 1: return fittingBits(row, one, KIND, KINDS);
             case 2: return fittingBits(row, one, NUMBER, MOST_NUMBER + 1);
-            case 3: return fittingMany(row, one, AGE);
-            case 4: return fittingLeast(row, one, AGE);
-            case 5: return fittingMany(row, one, EASE);
-            case 6: return fittingLeast(row, one, EASE);
+            case 3: return fittingMany(row, one, AGE, false);
+            case 4: return fittingMany(row, one, AGE, true);
+            case 5: return fittingMany(row, one, EASE, false);
+            case 6: return fittingMany(row, one, EASE, true);
             case 7: return fittingTexts(row);
             default: return fittingPeople(row);
         }
@@ -461,11 +462,6 @@ public final class NobodyCanLiftIt {
         thought.passAll(n);
     }
 
-    private int lieBehind(int n) {
-        think(n);
-        return thought.on;
-    }
-
     private int lieWithProp(int n, int floor, int k) {
         thought.take(now);
         thought.put(LOAD, floor, Math.min(MOST_LOAD, now.value(LOAD, floor) + k));
@@ -521,11 +517,16 @@ public final class NobodyCanLiftIt {
                 thought.put(HERE, one, 0);
             }
         }
-        return thought.somebodyLifts();
+        int weight = thought.weighs();
+        for (int one = 0; one < MOST_PEOPLE; one++) {
+            if (thought.canLift(one, weight)) {
+                return true;
+            }
+        }
+        return false;
     }
 
-    private int howManyLeave() {
-        int bits = fewestToLeave();
+    private static int howMany(int bits) {
         return bits == NONE ? NONE : Integer.bitCount(bits);
     }
 
@@ -546,44 +547,38 @@ public final class NobodyCanLiftIt {
         return who;
     }
 
-    private int firstOtherwise(Row row) {
+    private int otherwiseNow(Row row) {
         thought.take(now);
         return thought.firstOtherwise(row);
     }
 
-    private boolean fits(Row row, int one, int what, int v) {
-        thought.take(now);
-        thought.put(what, one, v);
-        return thought.firstOtherwise(row) == NONE;
-    }
-
+    /** The v below many such that, were this of one v, all would be so: as bits. */
     private int fittingBits(Row row, int one, int what, int many) {
         int bits = 0;
         for (int v = 0; v < many; v++) {
-            if (fits(row, one, what, v)) {
+            thought.take(now);
+            thought.put(what, one, v);
+            if (thought.firstOtherwise(row) == NONE) {
                 bits |= 1 << v;
             }
         }
         return bits;
     }
 
-    private int fittingMany(Row row, int one, int what) {
+    /** The v of 0 .. 99 such that, were this of one v, all would be so: how many, or the least. */
+    private int fittingMany(Row row, int one, int what, boolean isLeast) {
         int many = 0;
         for (int v = 0; v < TRIED; v++) {
-            if (fits(row, one, what, v)) {
+            thought.take(now);
+            thought.put(what, one, v);
+            if (thought.firstOtherwise(row) == NONE) {
+                if (isLeast) {
+                    return v;
+                }
                 many++;
             }
         }
-        return many;
-    }
-
-    private int fittingLeast(Row row, int one, int what) {
-        for (int v = 0; v < TRIED; v++) {
-            if (fits(row, one, what, v)) {
-                return v;
-            }
-        }
-        return NONE;
+        return isLeast ? NONE : many;
     }
 
     private int fittingTexts(Row row) {
@@ -601,7 +596,9 @@ public final class NobodyCanLiftIt {
     private int fittingPeople(Row row) {
         int bits = 0;
         for (int one = 0; one < MOST_PEOPLE; one++) {
-            if (now.has(one) && fits(row, one, HERE, now.isHere(one) ? 0 : 1)) {
+            thought.take(now);
+            thought.put(HERE, one, now.isHere(one) ? 0 : 1);
+            if (now.has(one) && thought.firstOtherwise(row) == NONE) {
                 bits |= 1 << one;
             }
         }
@@ -813,16 +810,6 @@ public final class NobodyCanLiftIt {
             return isHere(one) && strength(one) * WHOLE >= weight;
         }
 
-        boolean somebodyLifts() {
-            int weight = weighs();
-            for (int i = 0; i < MOST_PEOPLE; i++) {
-                if (canLift(i, weight)) {
-                    return true;
-                }
-            }
-            return false;
-        }
-
         /** A year: all is told before anything becomes otherwise. */
         void pass() {
             int weight = 0;
@@ -877,7 +864,7 @@ public final class NobodyCanLiftIt {
                     }
                 } else if (c > DO_OR) {
                     if (top >= 1 && top <= STACK) {
-                        stack[top - 1] = c == DO_NOT ? truth(stack[top - 1] == 0) : -stack[top - 1];
+                        stack[top - 1] = c != DO_NOT ? -stack[top - 1] : stack[top - 1] == 0 ? 1 : 0;
                     }
                 } else if (top >= 2 && top <= STACK) {
                     top--;
@@ -888,7 +875,7 @@ public final class NobodyCanLiftIt {
         }
 
         private int named(int name, int one) {
-            if (!has(one)) {
+            if (one < 0 || one >= MOST_PEOPLE) {
                 return 0;
             }
             switch (name) {
@@ -897,24 +884,25 @@ public final class NobodyCanLiftIt {
                 case NAME_FLOOR: return on;
                 case NAME_YEAR: return year;
                 case NAME_EASE: return eases[one];
-                default: return hereCount() - here[one];
+                default: break;
             }
+            int others = -here[one];
+            for (int i = 0; i < MOST_PEOPLE; i++) {
+                others += here[i];
+            }
+            return others;
         }
 
         private static int joined(int deed, int a, int b) {
             switch (deed) {
-                case DO_OR: return truth(a != 0 || b != 0);
-                case DO_AND: return truth(a != 0 && b != 0);
-                case DO_LESS: return truth(a < b);
-                case DO_SAME: return truth(a == b);
+                case DO_OR: return a != 0 || b != 0 ? 1 : 0;
+                case DO_AND: return a != 0 && b != 0 ? 1 : 0;
+                case DO_LESS: return a < b ? 1 : 0;
+                case DO_SAME: return a == b ? 1 : 0;
                 case DO_ADD: return a + b;
                 case DO_TAKE: return a - b;
                 default: return a * b;
             }
-        }
-
-        private static int truth(boolean is) {
-            return is ? 1 : 0;
         }
     }
 
@@ -1079,7 +1067,11 @@ public final class NobodyCanLiftIt {
             } else if (token == '(') {
                 advance();
                 readOr(open + 1);
-                expect(')');
+                if (token == ')') {
+                    advance();
+                } else {
+                    fail();
+                }
             } else {
                 fail();
             }
@@ -1120,13 +1112,15 @@ public final class NobodyCanLiftIt {
             while (end < size && isLetter(byteAt(end))) {
                 end++;
             }
-            token = keyRead();
-            if (token == STOPPED) {
-                meaning = nameRead();
-                token = NAME;
-                if (meaning == DO_NEGATE) {
-                    fail();
-                }
+            token = spells("feels") ? KEY_FEELS : spells("strong") ? KEY_STRONG : spells("eases") ? KEY_EASES
+                : spells("or") ? KEY_OR : spells("and") ? KEY_AND : spells("not") ? KEY_NOT : NAME;
+            if (token != NAME) {
+                return;
+            }
+            meaning = spells("age") ? NAME_AGE : spells("number") ? NAME_NUMBER : spells("floor") ? NAME_FLOOR
+                : spells("year") ? NAME_YEAR : spells("ease") ? NAME_EASE : spells("others") ? NAME_OTHERS : 0;
+            if (meaning == 0) {
+                fail();
             }
         }
 
@@ -1142,23 +1136,12 @@ public final class NobodyCanLiftIt {
             }
         }
 
-        private int keyRead() {
-            return spells("feels") ? KEY_FEELS : spells("strong") ? KEY_STRONG : spells("eases") ? KEY_EASES
-                : spells("or") ? KEY_OR : spells("and") ? KEY_AND : spells("not") ? KEY_NOT : STOPPED;
-        }
-
-        /** The code of a name; DO_NEGATE, which is no name's, for a word that is none. */
-        private int nameRead() {
-            return spells("age") ? NAME_AGE : spells("number") ? NAME_NUMBER : spells("floor") ? NAME_FLOOR
-                : spells("year") ? NAME_YEAR : spells("ease") ? NAME_EASE : spells("others") ? NAME_OTHERS : DO_NEGATE;
-        }
-
         private boolean spells(String word) {
-            if (end - start != word.length()) {
+            if (start < 0 || end > MOST_TAPE || end - start != word.length()) {
                 return false;
             }
             for (int i = 0; i < word.length(); i++) {
-                if (byteAt(start + i) != word.charAt(i)) {
+                if (tape[start + i] != word.charAt(i)) {
                     return false;
                 }
             }
