@@ -40,6 +40,20 @@ final class Due {
         }
     }
 
+    /** An object whose rule is a text of these three. */
+    static NobodyCanLiftIt by(String feels, String strong, String eases) {
+        NobodyCanLiftIt x = new NobodyCanLiftIt();
+        is("by " + feels + ", " + strong + ", " + eases,
+            read(x, "feels " + feels + "; strong " + strong + "; eases " + eases + ";"), 1);
+        x.force(1);
+        return x;
+    }
+
+    /** What is just outside of these bounds, and far. */
+    static int[] outside(int least, int most) {
+        return new int[] {least - 1, most + 1, Integer.MIN_VALUE, Integer.MAX_VALUE, least - 65536, most + 65536};
+    }
+
     static void end() {
         System.out.println(asked + " answers, " + wrong + " not as due");
         if (wrong != 0 || asked == 0) {
