@@ -18,6 +18,7 @@ public final class TermsSheetTest {
         copiesAsTheyWere();
         filmTruly();
         courtThreeByThree();
+        courtFromAnyPlace();
         courtLeavesOut();
         courtWhenThereIsNoRoom();
         courtOutside();
@@ -295,6 +296,23 @@ public final class TermsSheetTest {
         for (int n : Due.outside(0, 5)) {
             x.sheet(0, 0, 40);
             Due.is(n + " of them", x.court(0, 0, 0, n), BAD);
+        }
+    }
+
+    /** from one on: wherever in the longest row there is. */
+    private static void courtFromAnyPlace() {
+        for (int sort = 0; sort < 3; sort++) {
+            for (int from = 0; from <= 40; from++) {
+                NobodyCanLiftIt x = new NobodyCanLiftIt();
+                x.sheet(0, sort, 40);
+                for (int i = 0; i < 40; i++) {
+                    x.cell(0, i, i * 7 / 3 % 6);
+                }
+                Due.is("came from " + from, x.court(0, sort, from, 1), from <= 37 ? 1 : OUTSIDE);
+                Due.is("kind", x.told(0, 7), from <= 37 ? from * 7 / 3 % 6 : BAD);
+                Due.is("number", x.told(0, 3), from <= 37 ? (from + 1) * 7 / 3 % 6 : BAD);
+                Due.is("age", x.told(0, 4), from <= 37 ? (from + 2) * 7 / 3 % 6 : BAD);
+            }
         }
     }
 

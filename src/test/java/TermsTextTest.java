@@ -7,6 +7,8 @@ public final class TermsTextTest {
         tapeHolds160Bytes();
         textOf160Bytes();
         wordsAreAsLongAsCanBe();
+        everyLetterOfAWordCounts();
+        tokensEndWithTheTape();
         wordsAreOfSmallLetters();
         numbersAreAsLongAsCanBe();
         numbersHaveFourDigitsAtMost();
@@ -112,6 +114,56 @@ public final class TermsTextTest {
         good("1or not 1and 1");
         good("(age)or(ease)");
         Due.is("without a blank", text("feels1;strong1;eases1;"), 1);
+    }
+
+    /** FAULT: a WORD that is neither KEY nor NAME: be it by one letter, whichever, left out or otherwise. */
+    private static void everyLetterOfAWordCounts() {
+        for (String name : new String[] {"age", "number", "floor", "year", "ease", "others"}) {
+            good(name);
+            for (String word : spoilt(name)) {
+                faultIn(word, 0);
+            }
+        }
+        String[] keys = {"feels", "strong", "eases", "or", "and", "not"};
+        String[] texts = {"feels 1; strong 1; eases 1;", "feels 1; strong 1; eases 1;", "feels 1; strong 1; eases 1;",
+            "feels 1 or 1; strong 1; eases 1;", "feels 1 and 1; strong 1; eases 1;", "feels not 1; strong 1; eases 1;"};
+        for (int i = 0; i < keys.length; i++) {
+            int place = texts[i].indexOf(keys[i]);
+            Due.is(texts[i], text(texts[i]), 1);
+            for (String word : spoilt(keys[i])) {
+                fault(texts[i].replace(keys[i], word), place);
+            }
+        }
+    }
+
+    /** A word with each of its letters left out, or one more or one less. */
+    private static String[] spoilt(String word) {
+        String[] all = new String[3 * word.length()];
+        for (int i = 0; i < word.length(); i++) {
+            String ahead = word.substring(0, i);
+            String behind = word.substring(i + 1);
+            all[3 * i] = ahead + (char) (word.charAt(i) == 'z' ? 'y' : word.charAt(i) + 1) + behind;
+            all[3 * i + 1] = ahead + (char) (word.charAt(i) == 'a' ? 'b' : word.charAt(i) - 1) + behind;
+            all[3 * i + 2] = ahead + behind;
+        }
+        return all;
+    }
+
+    /** A TOKEN whose last byte is the tape's 160th is whole: the text ends too early behind it, or it is the fault. */
+    private static void tokensEndWithTheTape() {
+        for (String token : new String[] {"age", "others", "7", "9999", "not", "("}) {
+            fault("feels " + " ".repeat(154 - token.length()) + token, 160);
+        }
+        for (String token : new String[] {"or", "and"}) {
+            fault("feels 1" + " ".repeat(153 - token.length()) + token, 160);
+        }
+        for (String token : new String[] {"agf", "feels", "strong", "eases", "12345", ")", ";", "+", "?", "x"}) {
+            fault("feels " + " ".repeat(154 - token.length()) + token, 160 - token.length());
+        }
+        fault(" ".repeat(155) + "feels", 160);
+        fault("feels 1;" + " ".repeat(146) + "strong", 160);
+        fault("feels 1; strong 1;" + "\n".repeat(137) + "eases", 160);
+        Due.is("the last sign", text("feels 1; strong 1; eases 1" + " ".repeat(133) + ";"), 1);
     }
 
     /** WORDS (a .. z): a large letter begins no TOKEN, nor do the bytes beside a and z. */
